@@ -1,0 +1,15 @@
+/** Runs every test of the project. */
+public final class AllTests {
+    private AllTests() {
+    }
+
+    public static void main(String[] args) {
+        DaysAndFormatsTest.all();
+        RunsTest.all();
+        DocumentsTest.all();
+        ReadersSpansHoldsTest.all();
+        ModelTest.all();
+        FaceTest.all();
+        Check.close();
+    }
+}

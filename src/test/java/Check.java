@@ -1,0 +1,74 @@
+import java.util.function.BooleanSupplier;
+import java.util.function.LongSupplier;
+
+/** Counts tests; a test fails if one of its answers is not the one that is due. */
+final class Check {
+    private static int passed = 0;
+    private static int failed = 0;
+    private static int wrong = 0;
+    private static String current = "";
+
+    private Check() {
+    }
+
+    static void test(String name, Runnable body) {
+        current = name;
+        wrong = 0;
+        try {
+            body.run();
+        } catch (RuntimeException e) {
+            tell("ended with " + e);
+        }
+        if (wrong == 0) {
+            passed++;
+        } else {
+            failed++;
+        }
+    }
+
+    static void due(String what, long want, LongSupplier call) {
+        String got;
+        try {
+            got = String.valueOf(call.getAsLong());
+        } catch (RuntimeException e) {
+            got = e.getClass().getSimpleName();
+        }
+        same(what, String.valueOf(want), got);
+    }
+
+    static void holds(String what, boolean want, BooleanSupplier call) {
+        due(what, want ? 1 : 0, () -> call.getAsBoolean() ? 1 : 0);
+    }
+
+    static void refused(String what, Class<? extends RuntimeException> want, Runnable call) {
+        String got = "no exception";
+        try {
+            call.run();
+        } catch (RuntimeException e) {
+            // The very class: a machine's exception below the due one is wrong too.
+            got = e.getClass().getName();
+        }
+        same(what, want.getName(), got);
+    }
+
+    static void same(String what, String want, String got) {
+        if (!want.equals(got)) {
+            tell(what + " answered " + got + ", due is " + want);
+        }
+    }
+
+    private static void tell(String what) {
+        wrong++;
+        if (wrong <= 20) {
+            System.out.println(current + ": " + what);
+        }
+    }
+
+    /** Ends the program with exit code 1 if a test failed. */
+    static void close() {
+        System.out.println("own: " + passed + " passed, " + failed + " failed");
+        if (failed != 0 || passed == 0) {
+            System.exit(1);
+        }
+    }
+}
