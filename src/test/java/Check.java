@@ -31,7 +31,7 @@ final class Check {
         try {
             got = String.valueOf(call.getAsLong());
         } catch (RuntimeException e) {
-            got = e.getClass().getSimpleName();
+            got = name(e);
         }
         same(what, String.valueOf(want), got);
     }
@@ -45,10 +45,19 @@ final class Check {
         try {
             call.run();
         } catch (RuntimeException e) {
-            // The very class: a machine's exception below the due one is wrong too.
-            got = e.getClass().getName();
+            got = name(e);
         }
-        same(what, want.getName(), got);
+        same(what, want.getSimpleName(), got);
+    }
+
+    /**
+     * The very class, so that a machine's exception below the due one is wrong too; and one that the library throws
+     * bears the right name only by luck.
+     */
+    static String name(RuntimeException e) {
+        StackTraceElement[] trace = e.getStackTrace();
+        boolean own = trace.length > 0 && trace[0].getClassName().startsWith("PrintKeeper");
+        return e.getClass().getSimpleName() + (own ? "" : " from outside the class");
     }
 
     static void same(String what, String want, String got) {

@@ -108,7 +108,7 @@ final class ModelTest {
         try {
             return String.valueOf(made(x, call, a));
         } catch (RuntimeException e) {
-            return e.getClass().getSimpleName();
+            return Check.name(e);
         }
     }
 
