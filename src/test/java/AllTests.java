@@ -8,6 +8,11 @@ public final class AllTests {
         RunsTest.all();
         DocumentsTest.all();
         ReadersSpansHoldsTest.all();
+        DayBoundaries.all();
+        RunBoundaries.all();
+        DocumentBoundaries.all();
+        ReaderBoundaries.all();
+        LooksTest.all();
         ModelTest.all();
         FaceTest.all();
         Check.close();

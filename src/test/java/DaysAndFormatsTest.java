@@ -1,34 +1,15 @@
-/** Promises 1 to 3. */
+/** Promises 1 to 3 with ordinary calls; the boundary cases are in DayBoundaries. */
 final class DaysAndFormatsTest {
-    private static final Class<IllegalArgumentException> ARGUMENT = IllegalArgumentException.class;
-    private static final Class<IllegalStateException> STATE = IllegalStateException.class;
-    private static final Class<IndexOutOfBoundsException> INDEX = IndexOutOfBoundsException.class;
-
     private DaysAndFormatsTest() {
     }
 
     static void all() {
-        Check.test("1 a new object is empty", DaysAndFormatsTest::newObject);
         Check.test("1 two objects share nothing", DaysAndFormatsTest::twoObjects);
         Check.test("2 days pass", DaysAndFormatsTest::pass);
-        Check.test("2 days end at 9999", DaysAndFormatsTest::lastDay);
-        Check.test("2 wrong days", DaysAndFormatsTest::wrongDays);
-        Check.test("3 formats are counted to 10", DaysAndFormatsTest::countedFormats);
-        Check.test("3 wrong formats", DaysAndFormatsTest::wrongFormats);
-        Check.test("3 no format told", DaysAndFormatsTest::usualFormat);
         Check.test("3 the latest format counts", DaysAndFormatsTest::latestFormat);
         Check.test("3 of the same day the last told counts", DaysAndFormatsTest::sameDay);
         Check.test("3 a format counts when the run is ended", DaysAndFormatsTest::toldAtTheEnd);
         Check.test("3 account and kind at the same line", DaysAndFormatsTest::sameLine);
-    }
-
-    private static void newObject() {
-        PrintKeeper x = new PrintKeeper();
-        Check.due("documents", 0, x::documents);
-        Check.refused("pages(0)", INDEX, () -> x.pages(0));
-        Check.refused("end", STATE, x::end);
-        Check.due("clear", 0, x::clear);
-        Check.due("pass(1)", 1, () -> x.pass(1));
     }
 
     private static void twoObjects() {
@@ -54,67 +35,6 @@ final class DaysAndFormatsTest {
         Check.due("pass(1)", 1, () -> x.pass(1));
         Check.due("pass(1000)", 1001, () -> x.pass(1000));
         Check.due("pass(7)", 1008, () -> x.pass(7));
-    }
-
-    private static void lastDay() {
-        PrintKeeper x = new PrintKeeper();
-        Paper.passTo(x, 0, 9000);
-        Check.refused("pass(1000)", STATE, () -> x.pass(1000));
-        Check.due("pass(998)", 9998, () -> x.pass(998));
-        Check.refused("pass(2)", STATE, () -> x.pass(2));
-        Check.due("pass(1)", 9999, () -> x.pass(1));
-        Check.refused("pass(1) at the end", STATE, () -> x.pass(1));
-        Check.refused("pass(0) at the end", ARGUMENT, () -> x.pass(0));
-        Check.refused("pass(1001) at the end", ARGUMENT, () -> x.pass(1001));
-    }
-
-    private static void wrongDays() {
-        PrintKeeper x = new PrintKeeper();
-        for (int days : new int[] {0, -1, 1001, Integer.MIN_VALUE, Integer.MAX_VALUE}) {
-            Check.refused("pass(" + days + ")", ARGUMENT, () -> x.pass(days));
-        }
-        Check.due("pass(1)", 1, () -> x.pass(1));
-    }
-
-    private static void countedFormats() {
-        PrintKeeper x = new PrintKeeper();
-        for (int i = 1; i <= 10; i++) {
-            int want = i;
-            Check.due("format " + i, want, () -> x.format(9999, 7, 7));
-        }
-        Check.refused("an 11th", STATE, () -> x.format(0, 5, 5));
-        Check.refused("an 11th, wrong day", ARGUMENT, () -> x.format(10000, 5, 5));
-        Check.refused("an 11th, wrong account", ARGUMENT, () -> x.format(0, 8, 5));
-        Check.refused("an 11th, wrong kind", ARGUMENT, () -> x.format(0, 5, -1));
-        Paper.run(x, Paper.page(11, 2, 3, 4, 5, 6));
-        Check.due("the refused one changed nothing", 11, () -> x.account(0));
-    }
-
-    private static void wrongFormats() {
-        PrintKeeper x = new PrintKeeper();
-        int[] extremes = {Integer.MIN_VALUE, Integer.MAX_VALUE, -1};
-        for (int wrong : extremes) {
-            Check.refused("day " + wrong, ARGUMENT, () -> x.format(wrong, 2, 2));
-            Check.refused("account " + wrong, ARGUMENT, () -> x.format(0, wrong, 2));
-            Check.refused("kind " + wrong, ARGUMENT, () -> x.format(0, 2, wrong));
-        }
-        Check.refused("day 10000", ARGUMENT, () -> x.format(10000, 2, 2));
-        Check.refused("account 8", ARGUMENT, () -> x.format(0, 8, 2));
-        Check.refused("kind 8", ARGUMENT, () -> x.format(0, 2, 8));
-        Paper.run(x, Paper.page(11, 2, 33));
-        Check.due("account", 11, () -> x.account(0));
-        Check.due("the first that counts", 1, () -> x.format(0, 0, 0));
-    }
-
-    private static void usualFormat() {
-        PrintKeeper x = new PrintKeeper();
-        Paper.run(x, Paper.page(11, 6, 7));
-        x.format(1, 2, 0);
-        Paper.run(x, Paper.page(12, 7, 9));
-        Check.due("account", 11, () -> x.account(0));
-        Check.due("kind", 2, () -> x.kind(0));
-        Check.due("account before the format's day", 12, () -> x.account(1));
-        Check.due("kind before the format's day", 3, () -> x.kind(1));
     }
 
     private static void latestFormat() {

@@ -1,11 +1,6 @@
-import java.util.NoSuchElementException;
-
-/** Promises 11 to 17. */
+/** Promises 11 to 17 with ordinary calls; the boundary cases are in DocumentBoundaries. */
 final class DocumentsTest {
-    private static final Class<IllegalArgumentException> ARGUMENT = IllegalArgumentException.class;
     private static final Class<IndexOutOfBoundsException> INDEX = IndexOutOfBoundsException.class;
-    private static final Class<NoSuchElementException> ELEMENT = NoSuchElementException.class;
-    private static final int[] NO_SUCH = {-1, Integer.MIN_VALUE, Integer.MAX_VALUE};
 
     private DocumentsTest() {
     }
@@ -15,7 +10,6 @@ final class DocumentsTest {
         Check.test("11 an account goes on over pages", DocumentsTest::goesOn);
         Check.test("11 documents end with their run", DocumentsTest::endWithRun);
         Check.test("11 a document without account", DocumentsTest::lacking);
-        Check.test("12 13 14 15 no such document", DocumentsTest::noSuchDocument);
         Check.test("12 a document is there until it goes", DocumentsTest::there);
         Check.test("13 14 15 account, kind and length stay", DocumentsTest::stay);
         Check.test("14 kinds", DocumentsTest::kinds);
@@ -23,11 +17,8 @@ final class DocumentsTest {
         Check.test("16 by kind", DocumentsTest::foundByKind);
         Check.test("16 by day", DocumentsTest::foundByDay);
         Check.test("16 what a reader sees", DocumentsTest::foundByReader);
-        Check.test("16 wrong searches", DocumentsTest::wrongSearches);
         Check.test("17 lines are read", DocumentsTest::read);
         Check.test("17 a blank line", DocumentsTest::readBlank);
-        Check.test("17 unseen documents", DocumentsTest::readUnseen);
-        Check.test("17 wrong reads", DocumentsTest::wrongReads);
     }
 
     private static void counted() {
@@ -87,18 +78,6 @@ final class DocumentsTest {
         Check.due("account 1", 3, () -> x.account(1));
         Check.due("kind 1", 1, () -> x.kind(1));
         Check.due("length 1", 3, () -> x.length(1));
-    }
-
-    private static void noSuchDocument() {
-        PrintKeeper x = new PrintKeeper();
-        Paper.run(x, Paper.page(5, 2));
-        for (int wrong : new int[] {1, -1, Integer.MIN_VALUE, Integer.MAX_VALUE}) {
-            Check.refused("isThere " + wrong, INDEX, () -> x.isThere(wrong));
-            Check.refused("account " + wrong, INDEX, () -> x.account(wrong));
-            Check.refused("kind " + wrong, INDEX, () -> x.kind(wrong));
-            Check.refused("length " + wrong, INDEX, () -> x.length(wrong));
-        }
-        Check.holds("isThere 0", true, () -> x.isThere(0));
     }
 
     private static void there() {
@@ -209,23 +188,6 @@ final class DocumentsTest {
         dueFound(x, search(1, -1, -1, 0), 8);
     }
 
-    private static void wrongSearches() {
-        PrintKeeper x = someDocuments();
-        for (int wrong : NO_SUCH) {
-            Check.refused("reader " + wrong, ARGUMENT, () -> x.found(wrong, -1, -1, 0, 0));
-            Check.refused("day " + wrong, ARGUMENT, () -> x.found(0, -1, -1, wrong, 0));
-            int lower = wrong == -1 ? -2 : wrong;
-            Check.refused("account " + lower, ARGUMENT, () -> x.found(0, lower, -1, 0, 0));
-            Check.refused("kind " + lower, ARGUMENT, () -> x.found(0, -1, lower, 0, 0));
-        }
-        Check.refused("reader 4", ARGUMENT, () -> x.found(4, -1, -1, 0, 0));
-        Check.refused("account 100", ARGUMENT, () -> x.found(0, 100, -1, 0, 0));
-        Check.refused("kind 4", ARGUMENT, () -> x.found(0, -1, 4, 0, 0));
-        Check.refused("day 10000", ARGUMENT, () -> x.found(0, -1, -1, 10000, 0));
-        Check.refused("reader before index", ARGUMENT, () -> x.found(4, -1, -1, 0, -1));
-        Check.refused("day before index", ARGUMENT, () -> x.found(0, -1, -1, -1, 100));
-    }
-
     private static void read() {
         PrintKeeper x = new PrintKeeper();
         Paper.run(x, Paper.page(), Paper.page(5, 1, 11), Paper.page(5, 2, 22, 33), Paper.page(6));
@@ -255,47 +217,5 @@ final class DocumentsTest {
         Paper.run(x, Paper.page(4, 4));
         x.view(0, 0, 0, 1);
         Check.due("a document without account", -1, () -> x.read(0, 3, 0, 1));
-    }
-
-    private static void readUnseen() {
-        PrintKeeper x = new PrintKeeper();
-        x.format(0, 1, 0);
-        Paper.run(x, Paper.page(3), Paper.page(0, 5, 7));
-        Check.due("without account, reader 0", 3, () -> x.read(0, 0, 0, 0));
-        for (int i = 1; i <= 3; i++) {
-            int reader = i;
-            Check.refused("without account, reader " + reader, ELEMENT, () -> x.read(reader, 0, 0, 0));
-        }
-        x.view(3, 6, 99, 2);
-        x.view(2, 0, 4, 2);
-        Check.refused("account before the first", ELEMENT, () -> x.read(3, 1, 0, 2));
-        Check.refused("account behind the last", ELEMENT, () -> x.read(2, 1, 0, 2));
-        Check.refused("no such line first", INDEX, () -> x.read(3, 1, 0, 3));
-        Check.refused("no such page first", INDEX, () -> x.read(3, 1, 1, 0));
-        Check.refused("reader first", ARGUMENT, () -> x.read(4, 1, 1, 0));
-        x.view(3, 5, 5, -1);
-        Check.due("seen", 7, () -> x.read(3, 1, 0, 2));
-        x.pass(101);
-        x.clear();
-        Check.refused("a gone one", ELEMENT, () -> x.read(3, 1, 0, 2));
-        Check.refused("a gone one without account", ELEMENT, () -> x.read(0, 0, 0, 0));
-        Check.refused("no such line of a gone one", INDEX, () -> x.read(3, 1, 0, 3));
-    }
-
-    private static void wrongReads() {
-        PrintKeeper x = new PrintKeeper();
-        Paper.run(x, Paper.page(5, 6));
-        for (int wrong : NO_SUCH) {
-            Check.refused("reader " + wrong, ARGUMENT, () -> x.read(wrong, 0, 0, 0));
-            Check.refused("document " + wrong, INDEX, () -> x.read(0, wrong, 0, 0));
-            Check.refused("page " + wrong, INDEX, () -> x.read(0, 0, wrong, 0));
-            Check.refused("line " + wrong, INDEX, () -> x.read(0, 0, 0, wrong));
-        }
-        Check.refused("reader 4", ARGUMENT, () -> x.read(4, 0, 0, 0));
-        Check.refused("reader before document", ARGUMENT, () -> x.read(-1, 1, 0, 0));
-        Check.refused("document 1", INDEX, () -> x.read(0, 1, 0, 0));
-        Check.refused("page 1", INDEX, () -> x.read(0, 0, 1, 0));
-        Check.refused("line 2", INDEX, () -> x.read(0, 0, 0, 2));
-        Check.refused("line 8", INDEX, () -> x.read(0, 0, 0, 8));
     }
 }

@@ -9,6 +9,7 @@ import java.util.Arrays;
 import java.util.HashSet;
 import java.util.Set;
 import java.util.TreeSet;
+import java.util.regex.Pattern;
 
 /** The document's face, and the rules of LANGUAGE.md that can be seen from outside or in the words of the source. */
 final class FaceTest {
@@ -38,9 +39,13 @@ final class FaceTest {
         "boolean hold [int, boolean] [IllegalArgumentException]",
         face("int clear", 0),
         face("int bundle", 2, ARGUMENT)};
+    /** What LANGUAGE.md rules out, as far as it can be told by words. */
     private static final String[] FORBIDDEN = {
-        "->", "::", "try", "catch", "finally", "synchronized", "assert", "Exact(", "static {", "System.exit",
-        "Object", "package ", "@", "float", "double", "java.io", "java.time", "Random", "Thread"};
+        "::", "\\bfinally\\b", "\\bsynchronized\\b", "\\bassert\\b", "\\bpackage\\b", "\\bObjects?\\b", "\\bstatic \\{",
+        "\\bSystem\\.(?!arraycopy)", "\\b\\w+Exact\\(", "\\bgetMessage\\b", "@(?!Override)",
+        "\\b(Exception|Throwable|Error|NullPointerException|ClassCastException|ArrayStoreException)\\b",
+        "\\b(ArrayIndexOutOfBoundsException|NegativeArraySizeException)\\b"};
+    private static final String IMPORTS = "(ArrayList|List|Arrays|Iterator|NoSuchElementException|\\*)";
 
     private FaceTest() {
     }
@@ -59,10 +64,12 @@ final class FaceTest {
     }
 
     private static String face(Method method) {
-        String[] parameters = Arrays.stream(method.getParameterTypes()).map(Class::getSimpleName).toArray(String[]::new);
-        String[] exceptions = Arrays.stream(method.getExceptionTypes()).map(Class::getSimpleName).toArray(String[]::new);
-        return method.getReturnType().getSimpleName() + " " + method.getName() + " " + Arrays.toString(parameters) + " "
-                + Arrays.toString(exceptions);
+        return method.getReturnType().getSimpleName() + " " + method.getName() + " "
+                + names(method.getParameterTypes()) + " " + names(method.getExceptionTypes());
+    }
+
+    private static String names(Class<?>[] types) {
+        return Arrays.toString(Arrays.stream(types).map(Class::getSimpleName).toArray(String[]::new));
     }
 
     private static void methods() {
@@ -116,13 +123,21 @@ final class FaceTest {
             Check.same("the source", "readable", e.toString());
             return;
         }
+        String code = source.replaceAll("(?s)/\\*.*?\\*/|//[^\n]*", "");
+        Check.holds("signs of 1 to 127", true, () -> code.matches("[\\x01-\\x7f]*+"));
+        wordsOf(code.replaceAll("\"(\\\\.|[^\"\\\\])*\"", ""));
+    }
+
+    private static void wordsOf(String code) {
         for (String word : FORBIDDEN) {
-            Check.holds("the source has " + word, false, () -> source.contains(word));
+            Check.holds("the source has " + word, false, () -> Pattern.compile(word).matcher(code).find());
         }
-        String imports = "";
-        for (String line : source.split("\n")) {
-            imports += line.startsWith("import ") ? line.substring(7) : "";
+        for (String line : code.split("\n")) {
+            String words = line.trim();
+            boolean isCase = words.startsWith("case ") || words.startsWith("default ");
+            Check.holds("a lambda: " + words, false, () -> words.contains("->") && !isCase);
+            Check.holds(words, true, () -> !words.startsWith("import ")
+                    || words.matches("import java\\.util\\." + IMPORTS + ";"));
         }
-        Check.same("imports", "java.util.ArrayList;java.util.Arrays;java.util.NoSuchElementException;", imports);
     }
 }

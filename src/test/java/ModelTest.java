@@ -56,7 +56,7 @@ final class ModelTest {
             String call = chosen(next, STYLES[style]);
             int[] a = arguments(next, call);
             String want = model.answer(call, a);
-            String got = answer(keeper, call, a);
+            String got = new Call(call, a).answer(keeper);
             if (!want.equals(got)) {
                 Check.same("seed " + seed + ", call " + i + ": " + call + Arrays.toString(a), want, got);
                 return false;
@@ -101,41 +101,6 @@ final class ModelTest {
             case "hold": return new int[] {next.below(4), next.below(2)};
             case "bundle": return new int[] {next.below(4), next.below(4)};
             default: return new int[0];
-        }
-    }
-
-    private static String answer(PrintKeeper x, String call, int[] a) {
-        try {
-            return String.valueOf(made(x, call, a));
-        } catch (RuntimeException e) {
-            return Check.name(e);
-        }
-    }
-
-    private static long made(PrintKeeper x, String call, int[] a) {
-        switch (call) {
-            case "pass": return x.pass(a[0]);
-            case "format": return x.format(a[0], a[1], a[2]);
-            case "line": return x.line(a[0]);
-            case "feed": return x.feed();
-            case "end": return x.end();
-            case "pages": return x.pages(a[0]);
-            case "twice": return x.twice(a[0]);
-            case "reprint": return x.reprint(a[0], a[1], a[2]);
-            case "copies": return x.copies(a[0], a[1]);
-            case "documents": return x.documents();
-            case "isThere": return x.isThere(a[0]) ? 1 : 0;
-            case "account": return x.account(a[0]);
-            case "kind": return x.kind(a[0]);
-            case "length": return x.length(a[0]);
-            case "found": return x.found(a[0], a[1], a[2], a[3], a[4]);
-            case "read": return x.read(a[0], a[1], a[2], a[3]);
-            case "view": x.view(a[0], a[1], a[2], a[3]); return 0;
-            case "span": return x.span(a[0], a[1]);
-            case "hold": return x.hold(a[0], a[1] != 0) ? 1 : 0;
-            case "clear": return x.clear();
-            case "bundle": return x.bundle(a[0], a[1]);
-            default: throw new UnsupportedOperationException(call);
         }
     }
 }

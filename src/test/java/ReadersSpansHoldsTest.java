@@ -1,25 +1,16 @@
-/** Promises 18 to 22. */
+/** Promises 18 to 22 with ordinary calls; the boundary cases are in ReaderBoundaries. */
 final class ReadersSpansHoldsTest {
-    private static final Class<IllegalArgumentException> ARGUMENT = IllegalArgumentException.class;
-    private static final int[] NO_SUCH = {-1, Integer.MIN_VALUE, Integer.MAX_VALUE};
-
     private ReadersSpansHoldsTest() {
     }
 
     static void all() {
         Check.test("18 a view has ends", ReadersSpansHoldsTest::viewEnds);
-        Check.test("18 wrong views change nothing", ReadersSpansHoldsTest::wrongViews);
         Check.test("19 spans", ReadersSpansHoldsTest::span);
-        Check.test("19 wrong spans", ReadersSpansHoldsTest::wrongSpans);
         Check.test("20 holds", ReadersSpansHoldsTest::hold);
-        Check.test("20 wrong holds", ReadersSpansHoldsTest::wrongHolds);
-        Check.test("21 the first span", ReadersSpansHoldsTest::clearAtFirstSpan);
         Check.test("21 each kind has its span", ReadersSpansHoldsTest::clearByKind);
         Check.test("21 the day of the run", ReadersSpansHoldsTest::clearByRun);
         Check.test("21 held accounts stay", ReadersSpansHoldsTest::clearHeld);
-        Check.test("21 the longest span", ReadersSpansHoldsTest::longestSpan);
         Check.test("22 bundles", ReadersSpansHoldsTest::bundle);
-        Check.test("22 wrong bundles", ReadersSpansHoldsTest::wrongBundles);
     }
 
     private static PrintKeeper fourAccounts() {
@@ -52,25 +43,6 @@ final class ReadersSpansHoldsTest {
         Check.same("all again", "1111", seen(x, 0));
     }
 
-    private static void wrongViews() {
-        PrintKeeper x = fourAccounts();
-        x.view(1, 1, 98, 1);
-        for (int wrong : NO_SUCH) {
-            Check.refused("reader " + wrong, ARGUMENT, () -> x.view(wrong, 0, 99, -1));
-            Check.refused("first " + wrong, ARGUMENT, () -> x.view(1, wrong, 99, -1));
-            Check.refused("last " + wrong, ARGUMENT, () -> x.view(1, 0, wrong, -1));
-            int lower = wrong == -1 ? -2 : wrong;
-            Check.refused("blank " + lower, ARGUMENT, () -> x.view(1, 0, 99, lower));
-        }
-        Check.refused("reader 4", ARGUMENT, () -> x.view(4, 0, 99, -1));
-        Check.refused("first 100", ARGUMENT, () -> x.view(1, 100, 100, -1));
-        Check.refused("last 100", ARGUMENT, () -> x.view(1, 0, 100, -1));
-        Check.refused("last before first", ARGUMENT, () -> x.view(1, 5, 4, -1));
-        Check.refused("blank 8", ARGUMENT, () -> x.view(1, 0, 99, 8));
-        Check.same("as before", "0110", seen(x, 1));
-        Check.due("blank as before", -1, () -> x.read(1, 1, 0, 1));
-    }
-
     private static void span() {
         PrintKeeper x = new PrintKeeper();
         for (int i = 0; i <= 3; i++) {
@@ -79,17 +51,6 @@ final class ReadersSpansHoldsTest {
             Check.due("told", kind, () -> x.span(kind, 9999));
             Check.due("told again", 9999, () -> x.span(kind, 0));
         }
-    }
-
-    private static void wrongSpans() {
-        PrintKeeper x = new PrintKeeper();
-        for (int wrong : NO_SUCH) {
-            Check.refused("kind " + wrong, ARGUMENT, () -> x.span(wrong, 5));
-            Check.refused("days " + wrong, ARGUMENT, () -> x.span(0, wrong));
-        }
-        Check.refused("kind 4", ARGUMENT, () -> x.span(4, 5));
-        Check.refused("days 10000", ARGUMENT, () -> x.span(0, 10000));
-        Check.due("as before", 100, () -> x.span(0, 5));
     }
 
     private static void hold() {
@@ -102,28 +63,6 @@ final class ReadersSpansHoldsTest {
         }
         x.hold(50, true);
         Check.holds("another account", false, () -> x.hold(49, false));
-    }
-
-    private static void wrongHolds() {
-        PrintKeeper x = new PrintKeeper();
-        for (int wrong : new int[] {-1, 100, Integer.MIN_VALUE, Integer.MAX_VALUE}) {
-            Check.refused("hold " + wrong, ARGUMENT, () -> x.hold(wrong, true));
-            Check.refused("let go " + wrong, ARGUMENT, () -> x.hold(wrong, false));
-        }
-    }
-
-    private static void clearAtFirstSpan() {
-        PrintKeeper x = new PrintKeeper();
-        Paper.feeds(x, 2);
-        x.end();
-        Paper.run(x, Paper.page(5, 3));
-        Check.due("on the day", 0, x::clear);
-        x.pass(100);
-        Check.due("on day 100", 0, x::clear);
-        x.pass(1);
-        Check.due("on day 101", 2, x::clear);
-        Check.due("once more", 0, x::clear);
-        Check.holds("without account", false, () -> x.isThere(0));
     }
 
     private static void clearByKind() {
@@ -179,18 +118,6 @@ final class ReadersSpansHoldsTest {
         Check.due("the others go", 2, x::clear);
     }
 
-    private static void longestSpan() {
-        PrintKeeper x = new PrintKeeper();
-        x.span(0, 9999);
-        x.span(1, 9998);
-        Paper.run(x, Paper.page(1, 0), Paper.page(2, 1));
-        Paper.passTo(x, 0, 9999);
-        Check.due("the last day", 1, x::clear);
-        Check.holds("the span is not over", true, () -> x.isThere(0));
-        Paper.run(x, Paper.page(1, 0));
-        Check.due("a span beyond the days", 0, x::clear);
-    }
-
     private static void bundle() {
         PrintKeeper x = new PrintKeeper();
         Paper.run(x, Paper.page(), Paper.page(5, 1), Paper.page(), Paper.page(6, 1), Paper.page(5, 2));
@@ -207,15 +134,5 @@ final class ReadersSpansHoldsTest {
         x.pass(1);
         x.clear();
         Check.due("one is gone", 5, () -> x.bundle(3, 5));
-    }
-
-    private static void wrongBundles() {
-        PrintKeeper x = fourAccounts();
-        for (int wrong : NO_SUCH) {
-            Check.refused("reader " + wrong, ARGUMENT, () -> x.bundle(wrong, 0));
-            Check.refused("account " + wrong, ARGUMENT, () -> x.bundle(0, wrong));
-        }
-        Check.refused("reader 4", ARGUMENT, () -> x.bundle(4, 0));
-        Check.refused("account 100", ARGUMENT, () -> x.bundle(0, 100));
     }
 }
