@@ -15,6 +15,7 @@ public final class AllTests {
         LooksTest.all();
         ModelTest.all();
         FaceTest.all();
+        ReadmeTest.all();
         Check.close();
     }
 }
